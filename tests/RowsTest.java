@@ -386,7 +386,10 @@ public final class RowsTest {
             most[w] = w % 2 == 0 ? 10 + w : 2;
         }
         dueThird(31, 1, most);
-        WaveBuoys x = with(heights(5, 9, 8));
+        WaveBuoys x = with(0, -1, 49, -1, 89, -1, 79, -1, 69, -1, 59, -1, 49);
+        x.third(0, 0);
+        row(x, 0, heights(5, 9, 8));
+        DUE.is("nothing of the WAVES that were", x.third(0, 0), 9);
         DUE.failed("no WAVE", x.third(1, 0), WaveBuoys.NO);
         row(x, 1, -1, 1, 1);
         DUE.failed("one TURN UP", x.third(1, 1), WaveBuoys.NO);
