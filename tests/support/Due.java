@@ -1,3 +1,7 @@
+import java.lang.reflect.Method;
+import java.util.Arrays;
+import java.util.Comparator;
+
 /** Counts the answers that are not the ones that are due, and prints each. */
 final class Due {
     private int wrong;
@@ -7,10 +11,40 @@ final class Due {
         promise = "promise " + number + " (" + name + "): ";
     }
 
+    /** Runs the tests of a class, those whose names begin with p and the number of their promise
+     *  (p08..), in the order of their names; each promise from first to last must have one. */
+    void runEach(Class<?> tests, int first, int last) throws Exception {
+        Method[] methods = tests.getDeclaredMethods();
+        Arrays.sort(methods, Comparator.comparing(Method::getName));
+        int[] found = new int[100];
+        int many = 0;
+        for (Method m : methods) {
+            if (m.getName().matches("p\\d\\d[A-Z].*")) {
+                promise = m.getName() + ": ";
+                m.setAccessible(true);
+                m.invoke(null);
+                found[Integer.parseInt(m.getName().substring(1, 3))]++;
+                many++;
+            }
+        }
+        promise = "";
+        for (int p = first; p <= last; p++) {
+            holds("promise " + p + " has tests", found[p] > 0);
+        }
+        System.out.println(many + " tests were run");
+    }
+
     void is(String call, long got, long want) {
         if (got != want) {
             wrong++;
             System.out.println(promise + call + " answered " + got + ", due is " + want);
+        }
+    }
+
+    void is(String what, String got, String want) {
+        if (!got.equals(want)) {
+            wrong++;
+            System.out.println(promise + what + " is " + got + ", due is " + want);
         }
     }
 
