@@ -342,6 +342,9 @@ public final class PackEdgesTest {
         x = sent(64);
         miss(x, 4, 8);
         dueReceived("the first of the last four", x, 64);
+        x = sent(36);
+        miss(x, 4, 5);
+        dueReceived("the only one of the last four", x, 36);
     }
 
     /** Of four (or fewer). */
@@ -368,11 +371,11 @@ public final class PackEdgesTest {
     }
 
     static void p26OneOfTheOnlyOneOfTheLastFour() {
-        WaveBuoys x = sent(33);
+        WaveBuoys x = sent(36);
         miss(x, 0, 4);
-        dueReceived("the fifth", x, 33);
+        dueReceived("the fifth", x, 36);
         x.miss(6);
-        dueReceived("the fifth and its SUM", x, 33, 32, 32);
+        dueReceived("the fifth and its SUM", x, 36, 32, 35);
     }
 
     /** The last one of fewer, perhaps: those that there are none, as 0. */

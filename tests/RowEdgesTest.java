@@ -1092,6 +1092,14 @@ public final class RowEdgesTest {
         dueThird(51, 5, heights);
     }
 
+    static void p21NothingOfTheWavesThatWere() {
+        WaveBuoys x = Made.row(0, -1, 49, -1, 89, -1, 79, -1, 69, -1, 59, -1, 49);
+        x.third(0, 0);
+        Made.row(x, 0, Made.heights(5, 9, 8));
+        DUE.is("above", x.third(0, 0), 9);
+        DUE.is("below", x.third(0, 1), 1);
+    }
+
     static void p21TheGreatestHeights() {
         long[] numbers = Made.all(64, -MOST);
         for (int i = 1; i < 64; i += 2) {
@@ -1186,6 +1194,14 @@ public final class RowEdgesTest {
         dueGroups(2, 3, 5, 9, 9, 2, 2, 9, 9, 9);
         dueGroups(2, 3, 5, 9, 9, 9, 2, 2, 9, 9);
         dueGroups(1, 2, 5, 2, 9, 9, 2);
+    }
+
+    static void p22NothingOfTheWavesThatWere() {
+        WaveBuoys x = Made.row(Made.heights(9, 9, 9));
+        x.groups(0, 1, 0);
+        Made.row(x, 0, Made.heights(9));
+        DUE.is("how many", x.groups(0, 1, 0), 0);
+        DUE.is("the longest", x.groups(0, 1, 1), 1);
     }
 
     /** 0: none. */
