@@ -5,7 +5,9 @@ import java.util.Comparator;
 /** Counts the answers that are not the ones that are due, and prints each. */
 final class Due {
     private int wrong;
+    private int asked;
     private String promise = "";
+    private String sentence = "";
 
     void promise(int number, String name) {
         promise = "promise " + number + " (" + name + "): ";
@@ -34,17 +36,29 @@ final class Due {
         System.out.println(many + " tests were run");
     }
 
+    /** What the document says, ahead of the calls that test it. */
+    void sentence(String words) {
+        sentence = words.isEmpty() ? "" : "'" + words + "' ";
+    }
+
+    /** How many answers were looked at. */
+    int asked() {
+        return asked;
+    }
+
     void is(String call, long got, long want) {
+        asked++;
         if (got != want) {
             wrong++;
-            System.out.println(promise + call + " answered " + got + ", due is " + want);
+            System.out.println(promise + sentence + call + " answered " + got + ", due is " + want);
         }
     }
 
     void is(String what, String got, String want) {
+        asked++;
         if (!got.equals(want)) {
             wrong++;
-            System.out.println(promise + what + " is " + got + ", due is " + want);
+            System.out.println(promise + sentence + what + " is " + got + ", due is " + want);
         }
     }
 
