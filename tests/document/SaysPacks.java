@@ -151,6 +151,9 @@ final class SaysPacks extends Says {
             WaveBuoys x = ruled(6, 5, 1);
             each("hear", 1, x::hear, 6, 5);
             each("hear", 0, x::hear, 5);
+            x.rule(3, 2, 0);
+            each("hear, ruled anew", 1, x::hear, 3);
+            each("hear, ruled anew", 0, x::hear, 2);
         });
         says("1;", () -> DUE.is("rule", new WaveBuoys().rule(-5, -6, 7), 1));
         says("the WARNING is 0 then,", () -> {
@@ -203,6 +206,11 @@ final class SaysPacks extends Says {
             WaveBuoys x = moored(5, -5, 2, 1);
             DUE.is("within r", x.fix(7, -5), 0);
             DUE.is("beyond r", x.fix(8, -5), 2);
+            x.anchor(-5, 5, 1, 2);
+            DUE.is("within the new r", x.fix(-6, 5), 0);
+            DUE.is("beyond the new r", x.fix(-7, 5), 1);
+            x.anchor(-5, 5, 1, 1);
+            DUE.is("beyond it, with the new m", x.fix(-7, 5), 2);
         });
         says("m 1 .. 100;", () -> {
             each("anchor with m", 1, m -> new WaveBuoys().anchor(0, 0, 0, m), 1, 2, 100);

@@ -187,6 +187,7 @@ final class SaysTerms extends Says {
             spikes(0, "1 5 3", 3, 0, "1 5 3");
             spikes(0, "1 -5 3", 7, 0, "1 -5 3");
             spikes(0, "0 1 1", 0, 1, "0 - 1");
+            spikes(0, "0 127 0", GREATEST, 0, "0 127 0");
         });
         DUE.promise(10, "fill, terms");
         says("GAPS: rows of LOST SAMPLES, as long as may be.", () -> {
